@@ -7,6 +7,12 @@ final class Due {
 
     private int wrong = 0;
     private int checked = 0;
+    private String sentence = "";
+
+    /** The sentence of the document that is tested from here on. */
+    void sentence(String text) {
+        sentence = "\"" + text + "\" ";
+    }
 
     void is(String call, int want, int got) {
         checked++;
@@ -15,15 +21,23 @@ final class Due {
         }
     }
 
-    void throwing(String call, Class<? extends RuntimeException> want, Call made) {
+    void same(String what, String want, String got) {
         checked++;
+        if (!got.equals(want)) {
+            say(what + ": " + got + ", due is " + want);
+        }
+    }
+
+    void throwing(String call, Class<? extends RuntimeException> want, Call made) {
+        same(call, "throws." + want.getSimpleName(), outcome(made));
+    }
+
+    /** What a call answers, written out; of one that throws the exception's name. */
+    static String outcome(Call call) {
         try {
-            say(call + " answered " + made.answer() + ", due is throws." + want.getSimpleName());
+            return String.valueOf(call.answer());
         } catch (RuntimeException thrown) {
-            if (thrown.getClass() != want) {
-                say(call + " threw " + thrown.getClass().getSimpleName()
-                        + ", due is throws." + want.getSimpleName());
-            }
+            return "throws." + thrown.getClass().getSimpleName();
         }
     }
 
@@ -45,7 +59,7 @@ final class Due {
         wrong++;
         // A broken class may be wrong everywhere; the first ones tell enough.
         if (wrong <= 40) {
-            System.out.println(text);
+            System.out.println(sentence + text);
         }
     }
 }

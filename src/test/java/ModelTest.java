@@ -3,12 +3,14 @@ import java.util.List;
 import java.util.Random;
 
 /**
- * All promises: runs of 512 calls, the same on SlabHouse and on the plain model; each answer and
- * each exception is compared, and now and then all that can be asked. The seeds are fixed.
+ * All promises: runs of calls, the same on SlabHouse and on the plain model; each answer and each
+ * exception is compared, and now and then all that can be asked. The seeds are fixed.
  */
 public final class ModelTest {
     private static final int RUNS = 400;
-    private static final int CALLS = 512;
+    /** Fewer than an object is promised for, so that the rest can be asked of objects told the same. */
+    private static final int CALLS = 440;
+    private static final int CALLS_BETWEEN = 60;
     private static final int[] ALIGNS = {8, 16, 32, 64};
     private static final int[] ODD = {-1, 0, 1, 4, 8, 9, 1023, 262143, 262144, Integer.MIN_VALUE, Integer.MAX_VALUE};
     private static final Due DUE = new Due();
@@ -18,8 +20,13 @@ public final class ModelTest {
     /** How the run leans: 0 few large objects, 1 many small ones, 2 memory that runs short. */
     private final int lean;
     private final SlabHouse house = new SlabHouse();
+    /** All calls on house until now. */
+    private final List<Story.Step> past = new ArrayList<>();
     private final PlainHouse plain = new PlainHouse();
     private final List<Integer> live = new ArrayList<>();
+    /** An object that was told all of the past, and how many calls it had. */
+    private SlabHouse asked;
+    private int askedCalls;
     /** While it is false, more objects are freed than allocated. */
     private boolean growing = true;
 
@@ -40,12 +47,14 @@ public final class ModelTest {
         for (int i = 0; i < 2 + random.nextInt(4); i++) {
             cache();
         }
-        for (int i = 0; i < CALLS; i++) {
+        int compared = 0;
+        while (past.size() < CALLS) {
             if (random.nextInt(60) == 0) {
                 growing = !growing;
             }
             step(random.nextInt(100));
-            if (i % 64 == 63) {
+            if (past.size() - compared >= CALLS_BETWEEN) {
+                compared = past.size();
                 compareAll();
             }
         }
@@ -60,48 +69,48 @@ public final class ModelTest {
             cache();
         } else if (dice < 65) {
             int c = some(8);
-            both("drop(" + c + ")", () -> house.drop(c), () -> plain.drop(c));
+            both("drop(" + c + ")", x -> x.drop(c), () -> plain.drop(c));
         } else if (dice < 69) {
             int a = address();
             int m = random.nextInt(3);
-            both("mark(" + a + ", " + m + ")", () -> house.mark(a, m), () -> plain.mark(a, m));
+            both("mark(" + a + ", " + m + ")", x -> x.mark(a, m), () -> plain.mark(a, m));
         } else if (dice < 73) {
             int p = some(4);
-            both("flush(" + p + ")", () -> house.flush(p), () -> plain.flush(p));
+            both("flush(" + p + ")", x -> x.flush(p), () -> plain.flush(p));
         } else if (dice < 75) {
             int c = some(8);
-            both("empty(" + c + ")", () -> house.empty(c), () -> plain.empty(c));
+            both("empty(" + c + ")", x -> x.empty(c), () -> plain.empty(c));
         } else if (dice < 77) {
-            both("reap()", house::reap, plain::reap);
+            both("reap()", x -> x.reap(), plain::reap);
         } else {
-            ask(dice);
+            question(dice);
         }
     }
 
-    private void ask(int dice) {
+    private void question(int dice) {
         int a = address();
         int c = some(8);
         int w = some(8);
         int k = some(4);
         if (dice < 80) {
-            both("cacheOf(" + a + ")", () -> house.cacheOf(a), () -> plain.cacheOf(a));
+            both("cacheOf(" + a + ")", x -> x.cacheOf(a), () -> plain.cacheOf(a));
         } else if (dice < 84) {
-            both("objectOf(" + a + ")", () -> house.objectOf(a), () -> plain.objectOf(a));
+            both("objectOf(" + a + ")", x -> x.objectOf(a), () -> plain.objectOf(a));
         } else if (dice < 87) {
-            both("about(" + c + ", " + w + ")", () -> house.about(c, w), () -> plain.about(c, w));
+            both("about(" + c + ", " + w + ")", x -> x.about(c, w), () -> plain.about(c, w));
         } else if (dice < 90) {
             int l = some(3);
-            both("list(" + c + ", " + l + ", " + k + ")", () -> house.list(c, l, k), () -> plain.list(c, l, k));
+            both("list(" + c + ", " + l + ", " + k + ")", x -> x.list(c, l, k), () -> plain.list(c, l, k));
         } else if (dice < 93) {
-            both("slab(" + a + ", " + k + ")", () -> house.slab(a, k), () -> plain.slab(a, k));
+            both("slab(" + a + ", " + k + ")", x -> x.slab(a, k), () -> plain.slab(a, k));
         } else if (dice < 96) {
             both("magazine(" + c + ", " + k + ", " + w + ")",
-                    () -> house.magazine(c, k, w), () -> plain.magazine(c, k, w));
+                    x -> x.magazine(c, k, w), () -> plain.magazine(c, k, w));
         } else if (dice < 98) {
             int o = some(7);
-            both("block(" + o + ", " + k + ")", () -> house.block(o, k), () -> plain.block(o, k));
+            both("block(" + o + ", " + k + ")", x -> x.block(o, k), () -> plain.block(o, k));
         } else {
-            both("pages(" + k + ")", () -> house.pages(k), () -> plain.pages(k));
+            both("pages(" + k + ")", x -> x.pages(k), () -> plain.pages(k));
         }
     }
 
@@ -114,7 +123,7 @@ public final class ModelTest {
         }
         int told = random.nextInt(30) == 0 ? size + 4 : size;
         both("cache(" + told + ", " + align + ", " + order + ", 1)",
-                () -> house.cache(told, align, order, 1), () -> plain.cache(told, align, order, 1));
+                x -> x.cache(told, align, order, 1), () -> plain.cache(told, align, order, 1));
     }
 
     private void allocate(int more) {
@@ -122,7 +131,7 @@ public final class ModelTest {
         int p = random.nextInt(3) == 0 ? some(4) : 0;
         for (int i = 0; i <= more; i++) {
             int got = both("allocate(" + c + ", " + p + ")",
-                    () -> house.allocate(c, p), () -> plain.allocate(c, p));
+                    x -> x.allocate(c, p), () -> plain.allocate(c, p));
             if (got >= 0) {
                 live.add(got);
             }
@@ -133,7 +142,7 @@ public final class ModelTest {
         for (int i = 0; i < times; i++) {
             int a = address();
             int p = random.nextInt(3) == 0 ? some(4) : 0;
-            int got = both("free(" + a + ", " + p + ")", () -> house.free(a, p), () -> plain.free(a, p));
+            int got = both("free(" + a + ", " + p + ")", x -> x.free(a, p), () -> plain.free(a, p));
             if (got >= 0) {
                 live.remove((Integer) a);
             }
@@ -158,22 +167,36 @@ public final class ModelTest {
     }
 
     /** The answer on which both agree; -2 where they throw or differ. */
-    private int both(String call, Due.Call real, Due.Call model) {
-        String got = outcome(real);
-        String want = outcome(model);
+    private int both(String call, Story.Step real, Due.Call model) {
+        past.add(real);
+        return agreed(call, Due.outcome(() -> real.on(house)), Due.outcome(model));
+    }
+
+    private int agreed(String call, String got, String want) {
         DUE.holds("run " + run + ": " + call + " answered " + got + ", due is " + want, got.equals(want));
         return got.equals(want) && !got.startsWith("throws") ? Integer.parseInt(got) : -2;
     }
 
-    private static String outcome(Due.Call call) {
-        try {
-            return String.valueOf(call.answer());
-        } catch (RuntimeException thrown) {
-            return "throws." + thrown.getClass().getSimpleName();
+    /** Asks of an object that was told the same, for the run goes on with few enough calls. */
+    private void ask(String call, Story.Step real, Due.Call model) {
+        if (asked == null || askedCalls >= Story.CALLS) {
+            asked = retold();
+            askedCalls = past.size();
         }
+        askedCalls++;
+        agreed(call, Due.outcome(() -> real.on(asked)), Due.outcome(model));
+    }
+
+    private SlabHouse retold() {
+        SlabHouse x = new SlabHouse();
+        for (Story.Step step : past) {
+            Due.outcome(() -> step.on(x));
+        }
+        return x;
     }
 
     private void compareAll() {
+        asked = null;
         for (int number = 0; number < 8; number++) {
             compareCache(number);
         }
@@ -181,17 +204,17 @@ public final class ModelTest {
             int o = order;
             for (int index = 0; index < 40; index++) {
                 int k = index;
-                both("block(" + o + ", " + k + ")", () -> house.block(o, k), () -> plain.block(o, k));
+                ask("block(" + o + ", " + k + ")", x -> x.block(o, k), () -> plain.block(o, k));
             }
         }
-        both("pages(0)", () -> house.pages(0), () -> plain.pages(0));
-        both("pages(1)", () -> house.pages(1), () -> plain.pages(1));
+        ask("pages(0)", x -> x.pages(0), () -> plain.pages(0));
+        ask("pages(1)", x -> x.pages(1), () -> plain.pages(1));
         for (int page = 0; page < 256; page += 3) {
             int a = 1024 * page + random.nextInt(1024);
-            both("cacheOf(" + a + ")", () -> house.cacheOf(a), () -> plain.cacheOf(a));
+            ask("cacheOf(" + a + ")", x -> x.cacheOf(a), () -> plain.cacheOf(a));
             for (int what = 0; what < 4; what++) {
                 int w = what;
-                both("slab(" + a + ", " + w + ")", () -> house.slab(a, w), () -> plain.slab(a, w));
+                ask("slab(" + a + ", " + w + ")", x -> x.slab(a, w), () -> plain.slab(a, w));
             }
         }
     }
@@ -199,18 +222,18 @@ public final class ModelTest {
     private void compareCache(int c) {
         for (int what = 0; what < 8; what++) {
             int w = what;
-            both("about(" + c + ", " + w + ")", () -> house.about(c, w), () -> plain.about(c, w));
+            ask("about(" + c + ", " + w + ")", x -> x.about(c, w), () -> plain.about(c, w));
         }
         for (int index = 0; index < 60; index++) {
             int w = index % 3;
             int k = index / 3;
-            both("list(" + c + ", " + w + ", " + k + ")", () -> house.list(c, w, k), () -> plain.list(c, w, k));
+            ask("list(" + c + ", " + w + ", " + k + ")", x -> x.list(c, w, k), () -> plain.list(c, w, k));
         }
         for (int index = 0; index < 12; index++) {
             int p = index / 3;
             int w = index % 3;
-            both("magazine(" + c + ", " + p + ", " + w + ")",
-                    () -> house.magazine(c, p, w), () -> plain.magazine(c, p, w));
+            ask("magazine(" + c + ", " + p + ", " + w + ")",
+                    x -> x.magazine(c, p, w), () -> plain.magazine(c, p, w));
         }
     }
 }
