@@ -22,6 +22,7 @@ public final class CacheEdgesTest {
         oneColourStays();
         theLastColourStillFits();
         coloursGoOn();
+        coloursWaitForASlab();
         coloursAreOfEachCache();
         objectsBegin();
         dropOfNothing();
@@ -272,6 +273,26 @@ public final class CacheEdgesTest {
         giveToSlab(y, a);
         DUE.is("taken of the EMPTY one, which is not made anew", a, y.allocate(0, 0));
         DUE.is("the next COLOUR", 1, y.about(0, 3));
+    }
+
+    private static void coloursWaitForASlab() {
+        DUE.sentence("each next one 1 more: a SLAB that could not be made has no COLOUR");
+        SlabHouse x = with(4096, 8, 2);
+        x.cache(1000, 8, 0, 0);
+        DUE.is("the first slab", 0, x.allocate(1, 0));
+        for (int i = 0; i < 63; i++) {
+            x.allocate(0, 0);
+        }
+        DUE.is("the second slab", 1032, x.allocate(1, 0));
+        DUE.is("the third slab", 2064, x.allocate(1, 0));
+        DUE.is("the fourth slab", 3096, x.allocate(1, 0));
+        DUE.is("the fifth slab comes later", -1, x.allocate(1, 0));
+        DUE.is("nor is it here now", -1, x.allocate(1, 0));
+        DUE.is("the next COLOUR", 0, x.about(1, 3));
+        giveToSlab(x, 4096);
+        DUE.is("the fifth slab", 4096, x.allocate(1, 0));
+        DUE.is("its COLOUR", 0, x.slab(4096, 1));
+        DUE.is("the next COLOUR", 1, x.about(1, 3));
     }
 
     private static void coloursAreOfEachCache() {

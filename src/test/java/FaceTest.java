@@ -4,14 +4,36 @@ import java.lang.reflect.Method;
 import java.lang.reflect.Modifier;
 import java.nio.file.Files;
 import java.nio.file.Path;
+import java.util.ArrayList;
+import java.util.List;
+import java.util.Map;
 import java.util.Set;
 import java.util.TreeSet;
 
 /** The public face of the document, and the rules of LANGUAGE.md that a look at the file shows. */
 public final class FaceTest {
-    private static final Set<String> FACE = Set.of(
-            "cache(4)", "drop(1)", "allocate(2)", "free(2)", "mark(2)", "flush(1)", "empty(1)", "reap(0)",
-            "cacheOf(1)", "objectOf(1)", "about(2)", "list(3)", "slab(2)", "magazine(3)", "block(2)", "pages(1)");
+    private static final String NO_SUCH = "NoSuchElementException";
+    private static final String ARGUMENT = "IllegalArgumentException";
+    private static final String STATE = "IllegalStateException";
+
+    /** Each method with how many ints it takes, and what it says that it throws. */
+    private static final Map<String, List<String>> FACE = Map.ofEntries(
+            Map.entry("cache(4)", List.of(ARGUMENT)),
+            Map.entry("drop(1)", List.of(NO_SUCH, STATE)),
+            Map.entry("allocate(2)", List.of(NO_SUCH, ARGUMENT)),
+            Map.entry("free(2)", List.of(NO_SUCH, ARGUMENT, STATE)),
+            Map.entry("mark(2)", List.of(NO_SUCH)),
+            Map.entry("flush(1)", List.of(ARGUMENT)),
+            Map.entry("empty(1)", List.of(NO_SUCH)),
+            Map.entry("reap(0)", List.of()),
+            Map.entry("cacheOf(1)", List.of()),
+            Map.entry("objectOf(1)", List.of()),
+            Map.entry("about(2)", List.of(NO_SUCH, ARGUMENT)),
+            Map.entry("list(3)", List.of(NO_SUCH, ARGUMENT)),
+            Map.entry("slab(2)", List.of(NO_SUCH, ARGUMENT)),
+            Map.entry("magazine(3)", List.of(NO_SUCH, ARGUMENT)),
+            Map.entry("block(2)", List.of(ARGUMENT)),
+            Map.entry("pages(1)", List.of()));
 
     private static final String[] NOT_IN_THE_FILE = {
         "catch", "finally", "synchronized", "assert ", "->", "::", "package ", "System.out", "Exact(", "instanceof"};
@@ -37,9 +59,15 @@ public final class FaceTest {
             for (Class<?> type : method.getParameterTypes()) {
                 due.holds(method + " takes ints", type == int.class);
             }
-            open.add(method.getName() + "(" + method.getParameterCount() + ")");
+            String name = method.getName() + "(" + method.getParameterCount() + ")";
+            List<String> thrown = new ArrayList<>();
+            for (Class<?> type : method.getExceptionTypes()) {
+                thrown.add(type.getSimpleName());
+            }
+            due.same("what " + name + " says that it throws", String.valueOf(FACE.get(name)), thrown.toString());
+            open.add(name);
         }
-        due.holds("the public methods are " + open, open.equals(FACE));
+        due.holds("the public methods are " + open, open.equals(FACE.keySet()));
         for (String name : closed) {
             due.holds("a private method bears the public name " + name,
                     open.stream().noneMatch(each -> each.startsWith(name + "(")));

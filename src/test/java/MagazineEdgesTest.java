@@ -23,6 +23,7 @@ public final class MagazineEdgesTest {
         allocatingOfTheDepot();
         allocatingOfTheDepotLeavesPrevious();
         allocatingOfTheDepotForAnother();
+        whatTheDepotGaveIsOnePlaceOnly();
         allocatingOfTheSlabs();
         allocatingWithoutAnyObject();
         throughAllAndBack();
@@ -261,6 +262,24 @@ public final class MagazineEdgesTest {
         allocated(x, 2, 9);
     }
 
+    private static void whatTheDepotGaveIsOnePlaceOnly() {
+        DUE.sentence("LOADED is the one that came there last (it is in the DEPOT no more)");
+        SlabHouse x = withLive(22);
+        freeAll(x, 0, 0, 9);
+        allocated(x, 1, 3);
+        DUE.same("processor 1 has it", "3 0 0", of(x, 1));
+        freeAll(x, 0, 9, 13);
+        DUE.same("the DEPOT has another one", "1 4 1", of(x, 0));
+        DUE.same("which is not processor 1's", "3 0 1", of(x, 1));
+        DUE.is("in magazines", 12, x.about(0, 6));
+        freeAll(x, 1, 13, 14);
+        DUE.same("nor does what processor 1 frees come to it", "4 0 1", of(x, 1));
+        DUE.same("processor 0 has its own", "1 4 1", of(x, 0));
+        allocated(x, 2, 7, 6, 5, 4, 22);
+        allocated(x, 1, 13, 2, 1, 0, 23);
+        allocated(x, 0, 12, 11, 10, 9, 8, 24);
+    }
+
     private static void allocatingOfTheSlabs() {
         DUE.sentence("ALLOCATING: If LOADED has any, its OBJECT is taken, else one FROM THE SLABS");
         SlabHouse x = withLive(4);
@@ -298,6 +317,9 @@ public final class MagazineEdgesTest {
         for (int round = 0; round < 3; round++) {
             freeAll(x, round, 0, 20);
             DUE.same("all is full", "4 4 3", of(x, round));
+            DUE.same("another processor's are not", "0 0 3", of(x, 3));
+            DUE.same("nor are the last one's", "0 0 3", of(x, (round + 2) % 3));
+            DUE.is("in magazines", 20, x.about(0, 6));
             for (int i = 19; i >= 0; i--) {
                 allocated(x, round, i);
             }

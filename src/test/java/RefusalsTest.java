@@ -26,6 +26,9 @@ public final class RefusalsTest {
     public static void main(String[] args) {
         theStoriesAreAsTold();
         new RefusalsTest(Stories.fresh()).nothingIsThere();
+        new RefusalsTest(Stories.toldOnly()).noSlabIsThere();
+        new RefusalsTest(Stories.roomInPrevious()).anotherMark();
+        new RefusalsTest(Stories.roomInTheDepot()).anotherMark();
         new RefusalsTest(Stories.eightTold()).eightWereTold();
         new RefusalsTest(Stories.allTaken()).allIsTaken();
         RefusalsTest rich = new RefusalsTest(Stories.someOfAll());
@@ -67,6 +70,11 @@ public final class RefusalsTest {
         DUE.is("a FULL slab", 1024, x.list(0, 0, 0));
         DUE.is("a PARTIAL slab", 2048, x.list(0, 1, 0));
         DUE.is("an EMPTY slab", 3072, x.list(0, 2, 0));
+        SlabHouse room = Stories.roomInTheDepot().told();
+        DUE.is("LOADED is full", 4, room.magazine(0, 0, 0));
+        DUE.is("PREVIOUS is full", 4, room.magazine(0, 0, 1));
+        DUE.is("the depot is not", 2, room.magazine(0, 0, 2));
+        DUE.is("LOADED is full", 4, Stories.roomInPrevious().told().magazine(0, 0, 0));
         DUE.is("no page is free", 0, Stories.allTaken().told().pages(0));
         DUE.is("no ninth cache", -1, Stories.eightTold().told().cache(8, 8, 0, 0));
     }
@@ -95,6 +103,31 @@ public final class RefusalsTest {
         }
         refused("flush(4)", ARGUMENT, x -> x.flush(4));
         refused("block(7, 0)", ARGUMENT, x -> x.block(7, 0));
+    }
+
+    private void noSlabIsThere() {
+        for (int c = 0; c < 2; c++) {
+            int cache = c;
+            for (int p : NO_PROCESSORS) {
+                refused("allocate(" + c + ", " + p + ")", ARGUMENT, x -> x.allocate(cache, p));
+                refused("magazine(" + c + ", " + p + ", 0)", ARGUMENT, x -> x.magazine(cache, p, 0));
+            }
+            refused("list(" + c + ", 3, 0)", ARGUMENT, x -> x.list(cache, 3, 0));
+            refused("about(" + c + ", 8)", ARGUMENT, x -> x.about(cache, 8));
+        }
+        refused("drop(2)", NO_SUCH, x -> x.drop(2));
+        refused("free(0, 0)", NO_SUCH, x -> x.free(0, 0));
+    }
+
+    /** LOADED is full: a call that is refused makes no room. */
+    private void anotherMark() {
+        refused("free(1280, 0) with another mark", STATE, x -> x.free(1280, 0));
+        refused("free(1280, 4) with another mark", ARGUMENT, x -> x.free(1280, 4));
+        refused("free(1344, 4)", ARGUMENT, x -> x.free(1344, 4));
+        refused("free(64, 0), which is in a magazine", NO_SUCH, x -> x.free(64, 0));
+        refused("mark(64, 0), which is in a magazine", NO_SUCH, x -> x.mark(64, 0));
+        refused("drop(0)", STATE, x -> x.drop(0));
+        refused("flush(-1)", ARGUMENT, x -> x.flush(-1));
     }
 
     /** "IllegalArgument (before NONE)": the ninth is refused, too, as long as something is not as said. */
@@ -277,7 +310,8 @@ public final class RefusalsTest {
 
     /** Questions, answered or refused, change nothing either; nor does a ninth cache. */
     private static void questionsChangeNothing() {
-        Story[] stories = {Stories.fresh(), Stories.someOfAll(), Stories.eightTold(), Stories.allTaken()};
+        Story[] stories = {Stories.fresh(), Stories.toldOnly(), Stories.someOfAll(), Stories.roomInPrevious(),
+            Stories.roomInTheDepot(), Stories.eightTold(), Stories.allTaken()};
         for (Story story : stories) {
             for (List<Views.Question> questions : Views.asking()) {
                 Views.unchanged(DUE, "asking", story, questions, Views.taking());

@@ -1,4 +1,4 @@
-/** States from which calls are refused: a new object, one with some of all, one with eight caches, a full one. */
+/** States in which calls are refused. */
 final class Stories {
     /** In the state with some of all: objects that are LIVE and have the tag as their mark. */
     static final int[] LIVE = {2048 + 6 * 112, 2048 + 7 * 112, 2048 + 8 * 112, 4096 + 112, 6144, 10256, 24576};
@@ -50,6 +50,34 @@ final class Stories {
                 .freeAll(3, 8200, 8800, 9400)
                 .then(x -> x.mark(7344, 1))
                 .then(x -> x.mark(4096, 1));
+    }
+
+    /** Caches 0 and 1 are told, but have no slab yet. */
+    static Story toldOnly() {
+        return new Story()
+                .then(x -> x.cache(104, 16, 0, 7))
+                .then(x -> x.cache(4096, 8, 3, 7));
+    }
+
+    /** Processor 0's magazines are full, the depot has room for one; object 1280 has another mark. */
+    static Story roomInTheDepot() {
+        Story story = new Story()
+                .then(x -> x.cache(64, 8, 3, 7))
+                .times(24, x -> x.allocate(0, 0));
+        for (int i = 0; i < 16; i++) {
+            int address = 64 * i;
+            story.then(x -> x.free(address, 0));
+        }
+        return story.then(x -> x.mark(1280, 8));
+    }
+
+    /** Processor 0's LOADED is full, PREVIOUS is empty; object 1280 has another mark. */
+    static Story roomInPrevious() {
+        return new Story()
+                .then(x -> x.cache(64, 8, 3, 7))
+                .times(24, x -> x.allocate(0, 0))
+                .freeAll(0, 0, 64, 128, 192)
+                .then(x -> x.mark(1280, 8));
     }
 
     /** Eight caches were told; 6 is dropped, the others have an object. */

@@ -133,7 +133,7 @@ final class Views {
         return view;
     }
 
-    /** Of every place where an object of the stories below begins. */
+    /** Of every place where an object of Stories.someOfAll begins. */
     private static List<Question> marks() {
         List<Question> view = new ArrayList<>();
         for (int address : Stories.BEGINNINGS) {
